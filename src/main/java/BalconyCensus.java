@@ -736,8 +736,8 @@ public final class BalconyCensus {
         }
 
         int between(int one, int other) {
-            int low = Math.min(one, other);
-            int high = Math.max(one, other);
+            int low = one < other ? one : other;
+            int high = one < other ? other : one;
             for (int number = 0; number < count; number++) {
                 if (lower[number] == low && higher[number] == high) {
                     return number;
@@ -1100,7 +1100,9 @@ public final class BalconyCensus {
             for (int round = 0; round < BALCONIES && isLess; round++) {
                 isLess = false;
                 for (int balcony = 0; balcony < BALCONIES; balcony++) {
-                    isLess |= lessenBeside(house, balcony);
+                    if (lessenBeside(house, balcony)) {
+                        isLess = true;
+                    }
                 }
             }
             for (int balcony = 0; balcony < BALCONIES; balcony++) {

@@ -177,6 +177,8 @@ public final class ChangesTest {
         Check.due("swaps of cat 1", x.catOf(1, 2), 3);
         Check.due("swaps of cat 0", x.catOf(0, 2), 1);
         Check.due("home of cat 1", x.catOf(1, 1), 8);
+        Check.due("swap(5, 8) with the first cat on the other", x.swap(5, 8), 1);
+        Check.due("balcony of cat 0", x.catOf(0, 0), 5);
         Check.due("swap(-1, 0)", x.swap(-1, 0), NONE);
         Check.due("swap(0, -1)", x.swap(0, -1), NONE);
         Check.due("swap(12, 12)", x.swap(12, 12), NONE);
@@ -234,11 +236,16 @@ public final class ChangesTest {
         BalconyCensus x = new BalconyCensus();
         x.hang(0, 1, 2);
         x.hang(0, 2, 1);
-        x.hang(0, 3, 3);
+        x.hang(3, 2, 3);
         x.hang(0, 4, 1);
         x.greet(0, 1);
+        Check.due("lines at 0", x.balconyOf(0, 6), 3);
+        Check.due("lines at 2", x.balconyOf(2, 6), 2);
+        Check.due("lines at 4", x.balconyOf(4, 6), 1);
+        Check.due("lines at 5", x.balconyOf(5, 6), 0);
         x.day();
         Check.due("lines", x.account(2), 2);
+        Check.due("lower one of line 1", x.lineOf(1, 0), 2);
         Check.due("higher one of line 1", x.lineOf(1, 1), 3);
         Check.due("days of line 1", x.lineOf(1, 2), 2);
         Check.due("days of line 0", x.lineOf(0, 2), 1);

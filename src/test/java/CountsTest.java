@@ -57,6 +57,13 @@ public final class CountsTest {
         Check.due("account(1)", x.account(1), 2);
         x.day();
         dueFeuds(x, "when lines are gone", 3, 10);
+        x.undo();
+        dueFeuds(x, "behind undo", 2, 9);
+        x.bear(0, 0);
+        Check.due("feuds of 4", x.balconyOf(4, 3), 1);
+        x.undo();
+        Check.due("excessAgain() behind undo", x.excessAgain(), 9);
+        Check.due("excessAgain() once more", x.excessAgain(), 9);
     }
 
     private static void promises24And25Census() {
@@ -205,6 +212,10 @@ public final class CountsTest {
         x.greet(5, 7);
         x.greet(4, 11);
         dueOrder(x, true, 11, 7, 4, 5, 3, 2, 0, 1, 6, 8, 9, 10);
+        x.greet(0, 11);
+        x.greet(0, 7);
+        x.greet(0, 1);
+        dueOrder(x, true, 0, 11, 7, 4, 5, 3, 1, 2, 6, 8, 9, 10);
         Check.due("kindest(-1)", x.kindest(-1), NONE);
         Check.due("kindest(12)", x.kindest(12), NONE);
     }

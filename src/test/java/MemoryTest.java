@@ -8,6 +8,7 @@ public final class MemoryTest {
         promise40Undo();
         promise40EachChange();
         promise40EightAlone();
+        promise40ChangesBehindOtherCalls();
         promise41Save();
         promise42Restore();
         objectsAreApart();
@@ -69,6 +70,7 @@ public final class MemoryTest {
         Check.dueReasons(x, "reason stays", 2, 3, NOTHING, NOTHING);
         Check.due("line stays", Check.lineOf(x, length).length(), length);
         Check.due("greet(1, 5) on a new day", x.greet(1, 5), 1);
+        Check.due("greet(5, 0) on a new day", x.greet(5, 0), 1);
         Check.due("cat(4) is the first one", x.cat(4), 0);
         Check.due("swaps of the first one", x.catOf(0, 2), 0);
         x.restore();
@@ -146,6 +148,44 @@ public final class MemoryTest {
         Check.due("undo()", x.undo(), 3);
         Check.due("undo()", x.undo(), 2);
         Check.due("days", x.account(5), 15);
+    }
+
+    /** Looks that a change is made on what is, not on what was undone, tried or foretold ahead of it. */
+    private static void promise40ChangesBehindOtherCalls() {
+        String[] texts = {"plant 5 1", "bear 7 0", "hang 5 1 1", "greet 5 1", "give 5 6 1", "cat 3", "swap 2 11", "day"};
+        for (int kind = 0; kind < 8; kind++) {
+            BalconyCensus plain = new BalconyCensus();
+            BalconyCensus x = new BalconyCensus();
+            plain.plant(5, 2);
+            plain.cat(2);
+            x.plant(5, 2);
+            x.cat(2);
+            x.day();
+            x.plant(4, 2);
+            x.undo();
+            x.undo();
+            Check.readText(x, "day;plant 1 1;cat 2");
+            x.wouldGrow(4);
+            change(plain, kind);
+            change(x, kind);
+            Check.dueText("all behind '" + texts[kind] + "'", Check.sightOf(x), Check.sightOf(plain));
+            Check.readText(plain, "bear 9 9");
+            Check.readText(x, "bear 9 9");
+            Check.dueText("all behind a text behind it", Check.sightOf(x), Check.sightOf(plain));
+        }
+    }
+
+    private static void change(BalconyCensus x, int kind) {
+        switch (kind) {
+            case 0: x.plant(5, 1); break;
+            case 1: x.bear(7, 0); break;
+            case 2: x.hang(5, 1, 1); break;
+            case 3: x.greet(5, 1); break;
+            case 4: x.give(5, 6, 1); break;
+            case 5: x.cat(3); break;
+            case 6: x.swap(2, 11); break;
+            default: x.day();
+        }
     }
 
     private static void promise41Save() {

@@ -70,6 +70,8 @@ public final class NumbersTest {
         Check.due("feud(0, 8) two floors", x.feud(0, 8), 1);
         Check.due("feud(8, 0)", x.feud(8, 0), 1);
         Check.due("feud(8, 4)", x.feud(8, 4), 1);
+        Check.due("feuds of 8, with those of 0 and 4", x.balconyOf(8, 3), 2);
+        Check.due("feuds of 0", x.balconyOf(0, 3), 1);
         Check.due("feud(4, 0)", x.feud(4, 0), 0);
         Check.due("feud(1, 5): below does not count", x.feud(1, 5), 0);
         Check.due("feud(8, 9): another column", x.feud(8, 9), 0);

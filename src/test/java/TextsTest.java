@@ -174,6 +174,11 @@ public final class TextsTest {
         Check.readText(x, "cow");
         Check.due("fault of the latest", x.fault(), 1);
         Check.due("reason is not of the fault", x.reason(0, false), 11);
+        Check.readText(x, "plant 1 1;day");
+        Check.readText(x, "plant 1");
+        Check.due("fault at the end, where an earlier text went on", x.fault(), 7);
+        Check.readText(x, "plant 1 1;da");
+        Check.due("fault at the end of a word, where an earlier text went on", x.fault(), 12);
     }
 
     private static void promise14Reasons() {
