@@ -1,3 +1,6 @@
+import java.util.ArrayList;
+import java.util.List;
+
 /** What the tests share: answers compared with those that are due, and texts put in and taken out. */
 final class Check {
     static final int NONE = BalconyCensus.NONE;
@@ -7,31 +10,53 @@ final class Check {
 
     private static int wrong = 0;
     private static int looked = 0;
+    /** The sentences of the document for which answers were looked at: each a section and its words. */
+    static final List<String[]> SENTENCES = new ArrayList<>();
+    private static String sentence = "";
+    private static int lookedBefore = 0;
 
     private Check() {
+    }
+
+    /** Names the sentence of the document for which the next answers are looked at. */
+    static void says(String section, String words) {
+        endSentence();
+        SENTENCES.add(new String[] {section, words});
+        sentence = section + ", '" + words + "': ";
+        lookedBefore = looked;
+    }
+
+    /** A sentence for which no answer was looked at would be a test that cannot fail. */
+    static void endSentence() {
+        if (!sentence.isEmpty() && looked == lookedBefore) {
+            wrong(sentence + "no answer was looked at");
+        }
+        sentence = "";
+    }
+
+    static void wrong(String what) {
+        wrong++;
+        System.out.println(what);
     }
 
     static void due(String call, long got, long want) {
         looked++;
         if (got != want) {
-            wrong++;
-            System.out.println(call + " answered " + got + ", due is " + want);
+            wrong(sentence + call + " answered " + got + ", due is " + want);
         }
     }
 
     static void dueNumber(String call, double got, double want) {
         looked++;
         if (Double.compare(got, want) != 0) {
-            wrong++;
-            System.out.println(call + " answered " + got + ", due is " + want);
+            wrong(sentence + call + " answered " + got + ", due is " + want);
         }
     }
 
     static void dueText(String call, String got, String want) {
         looked++;
         if (!got.equals(want)) {
-            wrong++;
-            System.out.println(call + " answered '" + got + "', due is '" + want + "'");
+            wrong(sentence + call + " answered '" + got + "', due is '" + want + "'");
         }
     }
 
@@ -93,7 +118,28 @@ final class Check {
         return sight.toString();
     }
 
+    /** The same in 144 calls, so that an object can be seen three times in its life of 512 calls. */
+    static String shortSightOf(BalconyCensus x) {
+        StringBuilder sight = new StringBuilder();
+        for (int balcony = 0; balcony < 12; balcony++) {
+            for (int what = 0; what < 8; what++) {
+                sight.append(x.balconyOf(balcony, what)).append(' ');
+            }
+        }
+        for (int number = 0; number < 6; number++) {
+            for (int what = 0; what < 3; what++) {
+                sight.append(x.catOf(number, what)).append(' ');
+                sight.append(x.lineOf(number, what)).append(' ');
+            }
+        }
+        for (int what = 0; what < 12; what++) {
+            sight.append(x.account(what)).append(' ');
+        }
+        return sight.toString();
+    }
+
     static void end() {
+        endSentence();
         System.out.println(looked + " answers looked at, " + wrong + " not as due");
         if (wrong != 0 || looked == 0) {
             System.exit(1);
