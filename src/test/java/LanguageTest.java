@@ -25,6 +25,7 @@ public final class LanguageTest {
     public static void main(String[] args) throws Exception {
         face();
         constants();
+        faceOfTheDocument(Path.of(args.length > 0 ? args[0] : ".", "../shared/DOC.md"));
         String root = args.length > 0 ? args[0] : ".";
         String text = Files.readString(Path.of(root, "src/main/java/BalconyCensus.java"), StandardCharsets.UTF_8);
         textKeepsTheRules(text);
@@ -74,6 +75,39 @@ public final class LanguageTest {
         }
         Check.dueText("constants", found.toString(), "[public static final int BAD, public static final int NONE, "
                 + "public static final int NOTHING, public static final int REFUSED]");
+    }
+
+    /** Each line of the face as the document writes it, and the constants with their numbers. */
+    private static void faceOfTheDocument(Path document) throws Exception {
+        if (!Files.exists(document)) {
+            System.out.println("the document is not there: its face was not compared");
+            return;
+        }
+        String text = Files.readString(document, StandardCharsets.UTF_8);
+        Matcher block = Pattern.compile("(?s)```java\n(public final class BalconyCensus \\{\n.*?)```").matcher(text);
+        TreeSet<String> told = new TreeSet<>();
+        if (block.find()) {
+            for (Matcher line = Pattern.compile(" {4}(public .*?;)").matcher(block.group(1)); line.find();) {
+                told.add(line.group(1).replaceAll(" \\w+(?=[,)])", ""));
+            }
+        }
+        Check.dueText("the document's face", faceAsTheDocumentWritesIt().toString(), told.toString());
+    }
+
+    private static TreeSet<String> faceAsTheDocumentWritesIt() throws Exception {
+        TreeSet<String> face = new TreeSet<>();
+        for (Constructor<?> constructor : BalconyCensus.class.getConstructors()) {
+            face.add(constructor.toString().replace(",", ", ") + ";");
+        }
+        for (Method method : BalconyCensus.class.getDeclaredMethods()) {
+            if (Modifier.isPublic(method.getModifiers())) {
+                face.add(method.toString().replace("BalconyCensus.", "").replace(",", ", ") + ";");
+            }
+        }
+        for (Field field : BalconyCensus.class.getFields()) {
+            face.add(field.toString().replace("BalconyCensus.", "") + " = " + field.getInt(null) + ";");
+        }
+        return face;
     }
 
     private static void textKeepsTheRules(String text) {

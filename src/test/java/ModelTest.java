@@ -40,7 +40,7 @@ public final class ModelTest {
 
     private int balcony() {
         int balcony = number(0, 11);
-        // Some runs happen in a single column, where feuds are.
+        // Some runs happen in two columns alone, so that more balconies are above others.
         return run % 3 == 0 && balcony >= 0 && balcony < 12 ? balcony / 4 * 4 + pick(2) : balcony;
     }
 
